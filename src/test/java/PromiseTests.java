@@ -313,8 +313,12 @@ public final class PromiseTests {
         due(5, "no dog of the shop ahead", x.count(4), 2);
         x.pass(1);
         due(5, "AWAKE", x.staff(0, 5), 3);
+        due(5, "till", x.count(5), 55);
+        due(5, "drawer", x.count(6), 5);
         x.lay();
         due(5, "nobody AWAKE", x.staff(0, 5), 0);
+        due(5, "TILL 0", x.count(5), 0);
+        due(5, "DRAWER 0", x.count(6), 0);
         tell(x, "s0,2,1,0;c0,0,3,60;");
         x.lay();
         due(5, "nobody serves as in the shop ahead", x.did(0), 0);
@@ -482,12 +486,24 @@ public final class PromiseTests {
         due(10, "nobody has a supper", x.staff(0, 6), 0);
         due(10, "till then", x.count(5), 144);
         due(10, "hams then", x.count(7), 2);
+        parts();
         SleepersShop y = shop("s0,0,1,0;c0,0,1,5;c2,0,3,5;");
         y.pass(14);
         due(10, "behind 14", y.staff(0, 5), 0);
         due(10, "hams behind 14", y.count(7), 2);
         for (int i = 2; i <= 40; i++) {
             due(10, "pass(14)", y.pass(14), 14 * i);
+        }
+    }
+
+    /** 12 pence are the first with one part for the drawer, then 23, 34, 45 and 56. */
+    private static void parts() {
+        for (int pence = 1; pence <= 60; pence++) {
+            int drawer = pence < 12 ? 0 : pence < 23 ? 1 : pence < 34 ? 2 : pence < 45 ? 3 : pence < 56 ? 4 : 5;
+            SleepersShop x = shop("s0,0,1,0;c0,0,0," + pence + ";");
+            x.pass(1);
+            due(10, "drawer of " + pence, x.count(6), drawer);
+            due(10, "till of " + pence, x.count(5), pence - drawer);
         }
     }
 
@@ -577,6 +593,7 @@ public final class PromiseTests {
         due(14, "eight can be undone", x.count(9), 8);
         for (int i = 7; i >= 0; i--) {
             due(14, "undo() of eight", x.undo(), i);
+            due(14, "nights gone by then", x.count(3), i + 3);
         }
         due(14, "the ninth", x.undo(), NO);
         due(14, "three nights stay", x.count(3), 3);
@@ -732,6 +749,9 @@ public final class PromiseTests {
         z.supper(0);
         due(18, "with a supper for this night", z.apart(1, 1), 0);
         due(18, "later it is gone, but no one comes", z.apart(14, 1), 0);
+        SleepersShop last = shop("s0,0,2,1;s0,0,2,1;s0,0,2,1;s0,0,2,1;s1,0,1,0;s1,2,1,0;q4,5;q0,1;c0,2,2,5;");
+        due(18, "the pair of the last two is the last: apart(1, 1)", last.apart(1, 1), 2);
+        due(18, "the pair of the last two is the last: apart(1, 0)", last.apart(1, 0), 1);
         SleepersShop wake = shop("s0,0,1,0;s1,0,1,0;q0,1;c0,0,1,5;c1,0,3,5;c2,0,3,5;c3,0,3,5;");
         due(18, "who is woken is AWAKE then: all four", wake.apart(4, 0), 4);
         due(18, "by making up", wake.apart(4, 1), 1);
