@@ -11,7 +11,8 @@ import java.util.regex.Pattern;
 /** Long runs of drawn calls, each answer beside that of a second, slow reading of the document. */
 public final class ModelRuns {
     private static final int BAD = -1, NO = -2, FULL = -3, NONE = -4;
-    private static final int RUNS = 1500, CALLS = 500;
+    /** What is answered behind the 512th call is free. */
+    private static final int RUNS = 1500, CALLS = 512;
 
     /** One of the staff, or a customer: the numbers of its item. */
     record Told(List<int[]> staff, List<int[]> customers, TreeSet<String> quarrels, int dog) { }
@@ -652,13 +653,13 @@ public final class ModelRuns {
     private void tellText() {
         told("wipe()", x.wipe(), m.wipe());
         String text = text();
-        for (int i = 0; i < text.length() && got == want; i++) {
+        for (int i = 0; i < text.length() && got == want && calls.size() < CALLS; i++) {
             told("write('" + text.charAt(i) + "')", x.write(text.charAt(i)), m.write(text.charAt(i)));
         }
-        if (got == want) {
+        if (got == want && calls.size() < CALLS) {
             told("fault()", x.fault(), m.fault());
         }
-        if (got == want) {
+        if (got == want && calls.size() < CALLS) {
             told("lay()", x.lay(), m.lay());
         }
     }

@@ -454,6 +454,20 @@ public final class NightEdges {
             due("undo() of none once more", x.undo(), NO);
             due("they quarrel as they did", x.quarrel(0, 1), (many - left) % 2);
         }
+        for (int many = 8; many <= 20; many++) {
+            SleepersShop each = Checks.shop(ONE);
+            for (int i = 0; i < many; i++) {
+                each.pass(1 + i % 14);
+            }
+            int night = each.count(3);
+            for (int i = many - 1; i >= many - 8; i--) {
+                night -= 1 + i % 14;
+                due("undo() of the " + (i + 1) + "th", each.undo(), i - many + 8);
+                due("nights then", each.count(3), night);
+            }
+            due("undo() of one more", each.undo(), NO);
+            due("nights then", each.count(3), night);
+        }
         SleepersShop x = Checks.shop(ONE);
         for (int i = 0; i < 9; i++) {
             x.pass(14);

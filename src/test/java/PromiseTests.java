@@ -47,11 +47,12 @@ public final class PromiseTests {
         for (int what = 0; what <= 11; what++) {
             all.append(x.count(what)).append(' ');
         }
-        for (int s = 0; s < x.count(0); s++) {
+        int staff = x.count(0);
+        for (int s = 0; s < staff; s++) {
             for (int what = 0; what <= 6; what++) {
                 all.append(x.staff(s, what)).append(' ');
             }
-            for (int t = 0; t < x.count(0); t++) {
+            for (int t = 0; t < staff; t++) {
                 all.append(x.quarrel(s, t)).append(' ');
             }
             all.append(x.law(s, 0)).append(' ');
@@ -277,12 +278,7 @@ public final class PromiseTests {
         before = whole(x);
         due(5, "lay() without staff", x.lay(), NO);
         same(5, "lay() without staff", whole(x), before);
-        tell(x, ONE + "h0;");
-        before = whole(x);
-        due(5, "lay() with a fault", x.lay(), NO);
-        same(5, "lay() with a fault", whole(x), before);
-        due(5, "fault() changes nothing", x.fault(), 9);
-        same(5, "fault()", whole(x), before);
+        layFaulty();
         tell(x, "s2,3,4,9;s1,5,10,0;q1,0;c2,3,1,60;");
         due(5, "lay()", x.lay(), 2);
         int[] counts = {2, 1, 1, 0, 1, 0, 0, 0, 0, 0, 0, 34};
@@ -298,6 +294,18 @@ public final class PromiseTests {
         due(5, "no second customer", x.customer(1, 0), BAD);
         due(5, "lay() once more", x.lay(), 2);
         layForgets();
+    }
+
+    private static void layFaulty() {
+        SleepersShop x = new SleepersShop();
+        x.pass(3);
+        x.supper(0);
+        tell(x, ONE + "h0;");
+        String before = whole(x);
+        due(5, "lay() with a fault", x.lay(), NO);
+        same(5, "lay() with a fault", whole(x), before);
+        due(5, "fault() changes nothing", x.fault(), 9);
+        same(5, "fault()", whole(x), before);
     }
 
     private static void layForgets() {
