@@ -48,6 +48,20 @@ public final class FaceTest {
         }
     }
 
+    private static void classesInside() {
+        Set<String> names = Arrays.stream(METHODS).map(m -> m.substring(0, m.indexOf('('))).collect(Collectors.toSet());
+        Class<?>[] inside = SleepersShop.class.getDeclaredClasses();
+        same("some twelve classes at most", inside.length < 12, true);
+        for (Class<?> c : inside) {
+            same("neither public nor protected: " + c, c.getModifiers() & (Modifier.PUBLIC | Modifier.PROTECTED), 0);
+            same("static: " + c, Modifier.isStatic(c.getModifiers()), true);
+            same("some twenty fields: " + c, c.getDeclaredFields().length <= 20, true);
+            for (Method m : c.getDeclaredMethods()) {
+                same("a method inside named as a public one: " + m, names.contains(m.getName()), false);
+            }
+        }
+    }
+
     private static void fields() {
         Set<String> open = new TreeSet<>();
         for (Field f : SleepersShop.class.getDeclaredFields()) {
@@ -69,6 +83,7 @@ public final class FaceTest {
         same("the constructor", made[0].getModifiers(), Modifier.PUBLIC);
         methods();
         fields();
+        classesInside();
         System.out.println("the face: " + wrong + " not as due");
         if (wrong != 0) {
             System.exit(1);
